@@ -868,7 +868,7 @@ public final class WireLoops {
         }
 
         private int digitHere() {
-            if (!isWithin(at, 0, length - 1) || at >= MOST_CHARACTERS) {
+            if (!isAtCharacter()) {
                 return NO_DIGIT;
             }
             int digit = characters[at] - '0';
@@ -876,11 +876,15 @@ public final class WireLoops {
         }
 
         private boolean passBy(char sign) {
-            if (!isWithin(at, 0, length - 1) || at >= MOST_CHARACTERS || characters[at] != sign) {
+            if (!isAtCharacter() || characters[at] != sign) {
                 return false;
             }
             at++;
             return true;
+        }
+
+        private boolean isAtCharacter() {
+            return at >= 0 && at < length && at < MOST_CHARACTERS;
         }
     }
 }

@@ -6,6 +6,7 @@ public final class HistoryTest {
         undoOfEachAct();
         undoIsBounded();
         undoMany();
+        undoBringsNumbersBack();
         undoLeavesTextAndSnapshot();
         undoLeavesLaterStatesWhole();
         keepAndRestore();
@@ -90,6 +91,24 @@ public final class HistoryTest {
             due("width", x.count(7), widths[i]);
         }
         due("the oldest one was dropped", x.undo(), WireLoops.NONE);
+    }
+
+    private static void undoBringsNumbersBack() {
+        WireLoops x = new WireLoops();
+        x.lay(3, 4, 60);
+        x.keep();
+        x.takeOff(3);
+        x.lay(3, 5, 100);
+        due("number", x.wire(3, 6), 1);
+        x.undo();
+        x.undo();
+        due("number ahead of that", x.wire(3, 6), 0);
+        due("lead ahead of that", x.wire(3, 0), 4);
+        x.takeOff(3);
+        x.lay(3, 6, 70);
+        x.restore();
+        due("number of the snapshot", x.wire(3, 6), 0);
+        due("so far", x.count(1), 1);
     }
 
     private static void undoLeavesTextAndSnapshot() {

@@ -6,6 +6,7 @@ public final class ToldTest {
         wireWrong();
         wireTells();
         heightAt();
+        heightAtEverywhere();
         heightAtWrong();
         crossingTells();
         crossingAtY();
@@ -14,6 +15,7 @@ public final class ToldTest {
         lead();
         bestHeightTells();
         bestHeightOfSeveral();
+        bestHeightAtTheEnds();
         bestHeightWrong();
         laysLeft();
         laysLeftOfTool();
@@ -95,6 +97,17 @@ public final class ToldTest {
         x.bend(1, 200);
         due("bent, y 100", x.heightAt(1, 100), 200);
         due("bent, y 10", x.heightAt(1, 10), 38);
+    }
+
+    private static void heightAtEverywhere() {
+        for (int height = 10; height <= 200; height++) {
+            WireLoops x = new WireLoops();
+            x.lay(11, 0, height);
+            for (int y = 0; y <= 200; y++) {
+                int rest = height * y * (200 - y) - 10000 * x.heightAt(11, y);
+                due("rounded down: " + height + " at " + y, rest >= 0 && rest < 10000 ? 1 : 0, 1);
+            }
+        }
     }
 
     private static void heightAtWrong() {
@@ -233,6 +246,40 @@ public final class ToldTest {
         due("short ones tried", fewest, 1);
         due("height", x.bestHeight(0, 0), 194);
         due("short ones", x.bestHeight(0, 1), 1);
+    }
+
+    /** Pads 0, 1, 2 go to 200, 180, 160: 0 crosses both others in the middle, at their full heights. */
+    private static WireLoops crossingInTheMiddle(int width, int heightOf1, int heightOf2) {
+        WireLoops x = new WireLoops();
+        x.setWidth(width);
+        x.moveLead(6, 180);
+        x.moveLead(7, 160);
+        x.lay(0, 5, 60);
+        x.lay(1, 6, heightOf1);
+        x.lay(2, 7, heightOf2);
+        return x;
+    }
+
+    private static void bestHeightAtTheEnds() {
+        WireLoops x = crossingInTheMiddle(1, 10, 12);
+        due("just between", x.bestHeight(0, 0), 11);
+        x = crossingInTheMiddle(1, 11, 12);
+        due("just below", x.bestHeight(0, 0), 10);
+        x = crossingInTheMiddle(50, 150, 51);
+        due("only the highest is clear", x.bestHeight(0, 0), 200);
+        due("of both", x.bestHeight(0, 1), 0);
+        x = crossingInTheMiddle(50, 150, 50);
+        due("just between", x.bestHeight(0, 0), 100);
+        x = crossingInTheMiddle(50, 130, 40);
+        due("one short anywhere below 180", x.bestHeight(0, 0), 180);
+        x = crossingInTheMiddle(50, 155, 55);
+        due("clear in between", x.bestHeight(0, 0), 105);
+        x = crossingInTheMiddle(50, 154, 56);
+        due("one short everywhere: the lowest with one", x.bestHeight(0, 0), 10);
+        due("one short everywhere", x.bestHeight(0, 1), 1);
+        x = crossingInTheMiddle(50, 59, 59);
+        due("both short below 109", x.bestHeight(0, 0), 109);
+        due("the height stays", x.wire(0, 1), 60);
     }
 
     private static void bestHeightWrong() {

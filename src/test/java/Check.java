@@ -8,6 +8,10 @@ final class Check {
         this.name = name;
     }
 
+    int calls() {
+        return calls;
+    }
+
     void due(String call, int got, int want) {
         calls++;
         if (got != want) {

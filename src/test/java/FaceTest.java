@@ -73,11 +73,18 @@ public final class FaceTest {
             int modifiers = inside.getModifiers();
             CHECK.due("static " + inside.getName(), Modifier.isStatic(modifiers) ? 1 : 0, 1);
             CHECK.due("not public " + inside.getName(), Modifier.isPublic(modifiers) ? 1 : 0, 0);
-            for (Method method : inside.getDeclaredMethods()) {
-                String name = method.getName();
-                for (String face : METHODS) {
-                    CHECK.due(name + " is no name of the face", face.startsWith(name + "(") ? 1 : 0, 0);
-                }
+            privateNames(inside);
+        }
+        privateNames(WireLoops.class);
+    }
+
+    /** No private method bears the name of a public one. */
+    private static void privateNames(Class<?> one) {
+        for (Method method : one.getDeclaredMethods()) {
+            String name = method.getName();
+            for (String face : METHODS) {
+                boolean borne = Modifier.isPrivate(method.getModifiers()) && face.startsWith(name + "(");
+                CHECK.due(name + " is no name of the face", borne ? 1 : 0, 0);
             }
         }
     }

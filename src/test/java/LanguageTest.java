@@ -1,30 +1,47 @@
 import java.io.IOException;
+import java.lang.reflect.Field;
+import java.lang.reflect.Modifier;
 import java.nio.file.Files;
 import java.nio.file.Path;
+import java.util.HashMap;
+import java.util.HashSet;
 import java.util.List;
+import java.util.Map;
+import java.util.Set;
 import java.util.regex.Matcher;
 import java.util.regex.Pattern;
 
 /** What of ../shared/LANGUAGE.md can be seen from the text of the program, run from the project's directory. */
 public final class LanguageTest {
     private static final Check CHECK = new Check("LanguageTest");
+    private static final Path FILE = Path.of("src/main/java/WireLoops.java");
 
-    private static final String[] RULED_OUT = {
-        "\\bthrow\\b", "\\bthrows\\b", "\\btry\\b", "\\bcatch\\b", "\\bsynchronized\\b", "\\bassert\\b",
-        "->", "::", "\\bpackage\\b", "\\bprotected\\b", "Exact\\b", "\\bMap\\b", "\\bRandom\\b", "\\bThread\\b",
-        "nanoTime", "currentTimeMillis", "hashCode", "toString\\s*\\(\\s*\\)\\s*\\{", "@Override",
-        "\\bnew\\s+\\w+\\s*\\([^)]*\\)\\s*\\{", "static\\s*\\{", "\\bimport\\s+(?!java\\.util\\.Arrays;)",
-        "private\\s+static\\s+(?!final\\b)\\w+(\\[\\])?\\s+\\w+\\s*[=;]", "[^\\x00-\\x7f]", "\\\\u",
+    /** The rule's number, and what it rules out. */
+    private static final String[][] RULED_OUT = {
+        {"the program is one file without a package", "\\bpackage\\b"},
+        {"1", "\\bprotected\\b"},
+        {"2, local and anonymous classes", "\\bnew\\s+\\w+\\s*\\([^)]*\\)\\s*\\{"},
+        {"2, lambdas", "(?<!case [\\w, ]{1,80}|default ?)->"},
+        {"2, method references", "::"},
+        {"2, inner classes", "(?<!static |static final |static abstract )\\bclass\\s+(?!WireLoops\\b)"},
+        {"4, imports", "\\bimport\\s+(?!java\\.util\\.(Arrays|ArrayList|List|Iterator);)"},
+        {"4, names ending in Exact", "Exact\\b"},
+        {"4, signs in constants", "[^\\x00-\\x7f]|\\\\u"},
+        {"5, static fields", "\\bstatic\\s+(?!final\\b)[\\w<>]+(\\[\\])*\\s+\\w+\\s*[=;]"},
+        {"5, static initialiser blocks", "\\bstatic\\s*\\{"},
+        {"6", "\\b(throw|throws|try|catch|synchronized|assert)\\b"},
+        {"6, own equals, hashCode, toString", "\\b(equals|hashCode|toString)\\s*\\([^)]*\\)\\s*\\{"},
+        {"13", "\\b(System\\.(?!arraycopy)|Math\\.random|Random|Thread|File|Files|Socket)\\w*"},
     };
 
     public static void main(String[] args) throws IOException {
-        Path file = Path.of("src/main/java/WireLoops.java");
-        String program = withoutComments(Files.readString(file));
-        for (String ruledOut : RULED_OUT) {
-            Matcher matcher = Pattern.compile(ruledOut).matcher(program);
-            CHECK.same("ruled out: " + ruledOut, matcher.find() ? matcher.group() : "", "");
+        String program = withoutComments(Files.readString(FILE));
+        for (String[] rule : RULED_OUT) {
+            Matcher matcher = Pattern.compile(rule[1]).matcher(program);
+            CHECK.same("rule " + rule[0], matcher.find() ? matcher.group() : "", "");
         }
-        shortMethods(Files.readAllLines(file));
+        sizes();
+        methods(Files.readAllLines(FILE));
         CHECK.end();
     }
 
@@ -32,9 +49,28 @@ public final class LanguageTest {
         return program.replaceAll("(?s)/\\*.*?\\*/", " ").replaceAll("//[^\n]*", " ");
     }
 
-    /** A method starts on a line that ends its head with ") {", four or eight columns in. */
-    private static void shortMethods(List<String> lines) {
-        Pattern head = Pattern.compile("( {4}| {8})[a-z].*\\) \\{");
+    /** Rule 11: some twelve classes, of some twenty fields each. */
+    private static void sizes() {
+        Class<?>[] inside = WireLoops.class.getDeclaredClasses();
+        CHECK.due("rule 11, classes", Math.max(12, 1 + inside.length), 12);
+        fields(WireLoops.class);
+        for (Class<?> one : inside) {
+            fields(one);
+        }
+    }
+
+    private static void fields(Class<?> one) {
+        int fields = 0;
+        for (Field field : one.getDeclaredFields()) {
+            fields += Modifier.isStatic(field.getModifiers()) ? 0 : 1;
+        }
+        CHECK.due("rule 11, fields of " + one.getName(), Math.max(20, fields), 20);
+    }
+
+    /** Rules 8 and 11, by the names of the methods: sixty lines, seven parameters, no recursion, calls eight deep. */
+    private static void methods(List<String> lines) {
+        Pattern head = Pattern.compile("( {4}| {8})[a-z].*?(\\w+)\\((.*)\\) \\{");
+        Map<String, String> bodies = new HashMap<>();
         for (int i = 0; i < lines.size(); i++) {
             Matcher matcher = head.matcher(lines.get(i));
             if (matcher.matches() && !lines.get(i).trim().matches("(if|for|while|switch) .*")) {
@@ -42,8 +78,31 @@ public final class LanguageTest {
                 while (!lines.get(last).equals(matcher.group(1) + "}")) {
                     last++;
                 }
-                CHECK.due("60 lines at most: " + lines.get(i).trim(), Math.max(60, last - i + 1), 60);
+                String name = matcher.group(2);
+                CHECK.due("rule 11, lines of " + name, Math.max(60, last - i + 1), 60);
+                CHECK.due("rule 11, parameters of " + name, Math.max(7, matcher.group(3).split(",").length), 7);
+                String body = String.join("\n", lines.subList(i + 1, last));
+                bodies.merge(name, body, (one, other) -> one + "\n" + other);
             }
         }
+        for (String name : bodies.keySet()) {
+            CHECK.due("rules 8 and 11, calls from " + name, Math.max(8, depth(name, bodies, new HashSet<>())), 8);
+        }
+    }
+
+    /** How deep the calls go from a method on, itself counted; 100 and more if they come back to it. */
+    private static int depth(String name, Map<String, String> bodies, Set<String> open) {
+        if (!open.add(name)) {
+            return 100;
+        }
+        int deepest = 0;
+        Matcher calls = Pattern.compile("(?<!new |Math\\.|Arrays\\.|System\\.)\\b(\\w+)\\(").matcher(bodies.get(name));
+        while (calls.find()) {
+            if (bodies.containsKey(calls.group(1))) {
+                deepest = Math.max(deepest, depth(calls.group(1), bodies, open));
+            }
+        }
+        open.remove(name);
+        return deepest + 1;
     }
 }

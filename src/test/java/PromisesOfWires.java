@@ -88,8 +88,9 @@ final class PromisesOfWires {
         of.due("no state", x.undo(), NONE);
         of.due("no snapshot", x.restore(), NONE);
         of.due("no text", x.clearText(), 0);
-        x.lay(0, 0, 60);
-        of.due("a second object has nothing of the first one", new WireLoops().count(1), 0);
+        String fresh = Chips.whole(WireLoops::new);
+        Chips.busy();
+        of.same("a second object has nothing of the first one", Chips.whole(WireLoops::new), fresh);
     }
 
     // ---- promise 2

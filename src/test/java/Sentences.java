@@ -36,8 +36,8 @@ final class Sentences {
 
     /** Each sentence of the document has a test, but for those that begin as told here. */
     void end(String... untested) {
-        section = "";
-        sentence = "each sentence has a test";
+        section = "The document";
+        sentence = "each sentence has a test (1)";
         for (Map.Entry<String, List<String>> part : document.entrySet()) {
             for (String named : part.getValue()) {
                 if (!beginsWithOne(named, untested)) {
